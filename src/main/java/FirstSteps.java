@@ -90,7 +90,7 @@ public final class FirstSteps {
   private int images = 0;
 
   public FirstSteps() {
-    for (int i = 0; i < SHEETS; i++) {
+    for (int i = 0; i < sheets.length; i++) {
       sheets[i] = new Sheet();
     }
   }
