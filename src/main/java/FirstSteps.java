@@ -85,8 +85,7 @@ public final class FirstSteps {
   private final Rows rows = new Rows();
   private final Sheet[] sheets = new Sheet[SHEETS];
   private final int[] refusals = new int[PARTED];
-  private Speech latest = new Speech();
-  private Speech tried = new Speech();
+  private final Speech latest = new Speech();
   private int images = 0;
 
   public FirstSteps() {
@@ -402,15 +401,9 @@ public final class FirstSteps {
     if (!isGoing(going) || !within(voice, 0, VOICES - 1)) {
       return refused(BEYOND);
     }
-    int answer = tried.answer(live.goings, going, voice, x);
-    if (tried.parted) {
-      return refused(PARTED);
-    }
-    // An ERROR changes nothing, so THE TRACE comes anew only here.
-    Speech before = latest;
-    latest = tried;
-    tried = before;
-    return answer;
+    int answer = latest.answer(live.goings, going, voice, x);
+    // A voice() that PARTED is the latest one, too: THE TRACE holds the BODIES that it began.
+    return latest.parted ? refused(PARTED) : answer;
   }
 
   public int body(int i) {

@@ -44,6 +44,7 @@ public final class PromisesTest {
     go();
     voice();
     body();
+    bodyOfParted();
     sheet();
     put();
     move();
@@ -1055,11 +1056,37 @@ public final class PromisesTest {
     trace(x, 6, 0, 70);
     due("below", x.body(-1), NONE);
     due("far", x.body(MAX), NONE);
-    x.voice(8, 0, 0);
-    due("an error leaves it", x.body(0), 70);
-    x.voice(7, 3, 0);
-    due("parted leaves it", x.body(0), 70);
-    due("and as many", x.count(4), 1);
+    int[][] wrong = {{-1, 0}, {8, 0}, {0, -1}, {0, 4}};
+    for (int[] w : wrong) {
+      x.voice(w[0], w[1], 0);
+      due("an error ahead of any body leaves it", x.body(0), 70);
+      due("and as many", x.count(4), 1);
+    }
+  }
+
+  /** A voice() that PARTED is the latest one: what began in it is THE TRACE, the body that parted as the last. */
+  private static void bodyOfParted() {
+    Due.part("27 body, parted");
+    int[][] begun = {{13}, {21, 13}, {21, 13}, {13}, {13}, {13}, {13}};
+    FirstSteps x = new FirstSteps();
+    for (int kind = 0; kind < begun.length; kind++) {
+      x.going(100 * kind + kind, 1);
+      due("first of all", x.voice(kind, 3, 9), PARTED);
+      trace(x, kind, 3, begun[kind]);
+    }
+    trace(x, 4, 2, 51, 40, 12, 11, 50, 10);
+    trace(x, 2, 3, 21, 13);
+    x.voice(9, 3, 0);
+    due("an error ahead of any body leaves it", x.body(1), 13);
+    due("and as many", x.count(4), 2);
+    due("each is told", x.told(6), 2 * begun.length + 1);
+    x.image();
+    trace(x, 3, 3, 13);
+    x.restore();
+    due("no image keeps it", x.count(4), 1);
+    due("no image keeps it", x.body(0), 13);
+    x.setGoing(2, 1, 4);
+    trace(x, 2, 3, 21, 13, 30, 11, 20, 10);
   }
 
   private static void sheet() {

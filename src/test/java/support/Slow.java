@@ -741,11 +741,10 @@ final class Slow {
     G g = voiceOf(s.goings.get(going).kind);
     g.k = going;
     g.m = s.goings.get(going).m;
-    g.trace = new ArrayList<>();
+    trace = new ArrayList<>();
+    g.trace = trace;
     try {
-      int answer = voice == 0 ? g.leans(x) : voice == 1 ? g.steps(x) : voice == 2 ? g.falls(x) : g.learns(x);
-      trace = g.trace;
-      return answer;
+      return voice == 0 ? g.leans(x) : voice == 1 ? g.steps(x) : voice == 2 ? g.falls(x) : g.learns(x);
     } catch (Parted e) {
       return error(6);
     }
