@@ -421,7 +421,7 @@ public final class FirstSteps {
     if (bits != 0 && n > MOST_NUMBERS) {
       return refused(BEYOND);
     }
-    row.begin(bits, bits == 0 ? 0 : n);
+    row.begin(bits, n);
     return 1;
   }
 

@@ -4,6 +4,7 @@ import java.util.Random;
 public final class AgainstSlowTest {
   private static final int RUNS = 400;
   private static final int CALLS = 512;
+  private static final int ROOMS = 400;
   private static Random random;
   private static FirstSteps x;
   private static Slow y;
@@ -21,7 +22,66 @@ public final class AgainstSlowTest {
         next();
       }
     }
+    for (run = 1; run <= ROOMS; run++) {
+      random = new Random(-run);
+      x = new FirstSteps();
+      y = new Slow();
+      call = 0;
+      fallOnSlopes();
+      parted();
+    }
     Due.end();
+  }
+
+  /** FALLS' WAYS where it nearly falls, close to where FLOORS meet, HOLDS come AT HAND, GOINGS change. */
+  private static void fallOnSlopes() {
+    int sway = random.nextInt(3);
+    int[][] sets = {{0, random.nextInt(40)}, {2, 1 + random.nextInt(4)}, {3, sway}, {4, random.nextInt(20)},
+        {6, 100 * random.nextInt(20)}};
+    for (int[] set : sets) {
+      due("set", x.set(set[0], set[1]), y.set(set[0], set[1]), set[0], set[1]);
+    }
+    for (int floor = 0; floor < 5; floor++) {
+      int slip = random.nextInt(10);
+      int slope = random.nextInt(19) - 9;
+      due("floor", x.floor(floor, 0, slip), y.floor(floor, 0, slip), floor, 0, slip);
+      due("floor", x.floor(floor, 1, slope), y.floor(floor, 1, slope), floor, 1, slope);
+    }
+    for (int i = random.nextInt(4); i > 0; i--) {
+      int cell = random.nextInt(45);
+      due("hold", x.hold(cell, 9), y.hold(cell, 9), cell, 9);
+    }
+    for (int i = 1 + random.nextInt(3); i > 0; i--) {
+      int km = 100 * random.nextInt(7) + random.nextInt(30);
+      int tenths = 1 + random.nextInt(random.nextBoolean() ? 4 : 60);
+      due("going", x.going(km, tenths), y.going(km, tenths), km, tenths);
+    }
+    int before = 1 + random.nextInt(9);
+    due("tenths", x.tenths(before), y.tenths(before), before);
+    for (int i = 0; i < 6; i++) {
+      int lean = (random.nextBoolean() ? 1 : -1) * (30 + random.nextInt(65));
+      due("set", x.set(1, lean), y.set(1, lean), 1, lean);
+      int n = 1 + random.nextInt(sway == 2 ? 5 : 6);
+      due("ways", x.ways(n, 0), y.ways(n, 0), n, 0);
+      due("ways", x.ways(n, 1), y.ways(n, 1), n, 1);
+    }
+  }
+
+  /** VOICES of GOINGS whose m is their number, and THE TRACE behind them. */
+  private static void parted() {
+    int many = (int) y.count(1);
+    for (int i = 0; i < 12; i++) {
+      int going = random.nextInt(many);
+      int m = random.nextInt(3) == 0 ? random.nextInt(9) : going;
+      int voice = random.nextInt(4);
+      due("setGoing", x.setGoing(going, 1, m), y.setGoing(going, 1, m), going, 1, m);
+      due("voice", x.voice(going, voice, i), y.voice(going, voice, i), going, voice, i);
+      due("count", x.count(4), y.count(4), 4);
+      for (int j = 0; j <= y.count(4); j++) {
+        due("body", x.body(j), y.body(j), j);
+      }
+    }
+    due("told", x.told(6), y.told(6), 6);
   }
 
   private static void due(String name, long got, long want, long... args) {

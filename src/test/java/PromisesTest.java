@@ -37,6 +37,8 @@ public final class PromisesTest {
     then();
     ways();
     waysByGoings();
+    waysBySteps();
+    waysByHolds();
     way();
     gaps();
     pad();
@@ -835,12 +837,88 @@ public final class PromisesTest {
     for (int n = 1; n <= 6; n++) {
       fraction(x, n, y.ways(n, 0), y.ways(n, 1));
     }
+    // two leans in one row: 67 is 80 behind the SAT tenth, then 96 and D
+    FirstSteps sits = new FirstSteps();
+    sits.going(600, 1);
+    sits.going(0, 5);
+    sits.set(1, 67);
+    fraction(sits, 1, 0, 1);
+    fraction(sits, 2, 1, 9);
     // 19 to the 8th rows, counted once by another program
     FirstSteps z = new FirstSteps();
     z.set(3, 9);
     z.set(4, 0);
     z.going(0, 60);
     fraction(z, 8, 14068046L, 16983563041L);
+  }
+
+  private static void waysBySteps() {
+    Due.part("20 ways by steps");
+    FirstSteps x = steady();
+    x.set(0, 8);
+    x.set(4, 0);
+    x.set(1, 45);
+    x.floor(0, 1, -9);
+    x.floor(1, 1, 9);
+    // 45 stays 45 on floor 0; the step of the third tenth comes to floor 1: 63, 84, then it falls
+    fraction(x, 5, 0, 1);
+    fraction(x, 6, 1, 1);
+    x.set(0, 7);
+    fraction(x, 8, 0, 1);
+    x.set(0, 8);
+    // caught by 4: 41 and then 58, 78, and 102
+    x.set(4, 4);
+    fraction(x, 5, 0, 1);
+    fraction(x, 6, 1, 1);
+    // caught by 10: 35, 51, 70, 93 less 10, 83 and 16 and 9
+    x.set(4, 10);
+    fraction(x, 6, 0, 1);
+    fraction(x, 7, 1, 1);
+    // caught by 20: 25, 39, 55, 75 less 20, 75, and 99 is not above 99
+    x.set(4, 20);
+    fraction(x, 8, 0, 1);
+    // floor 1 slips: the second step catches by 10, 65, 87, 113
+    x.floor(1, 0, 5);
+    fraction(x, 7, 0, 1);
+    fraction(x, 8, 1, 1);
+    x.floor(1, 0, 0);
+    // floor 0 slips: the first step catches by 2, 43, 60, 81, 106
+    x.floor(0, 0, 9);
+    fraction(x, 5, 0, 1);
+    fraction(x, 6, 1, 1);
+    due("no step", x.is(8), 0);
+    due("no cell", x.is(0), 8);
+    due("no tenth", x.is(12), 60);
+  }
+
+  /** A HOLD that comes AT HAND by a STEP, or is left behind, changes SWAYS and CATCH of the TENTHS behind it. */
+  private static void waysByHolds() {
+    Due.part("20 ways by holds");
+    FirstSteps x = new FirstSteps();
+    x.going(200, 60);
+    x.hold(2, 50);
+    x.set(2, 1);
+    x.set(3, 3);
+    x.set(4, 0);
+    x.set(1, 45);
+    x.floor(0, 1, -9);
+    // not at hand: seven D each; the step of the third comes to cell 1, the sways are 1 then
+    due("rows", x.goingIs(0, 3), 3);
+    Slow y = new Slow();
+    y.going(200, 60);
+    y.hold(2, 50);
+    y.set(2, 1);
+    y.set(3, 3);
+    y.set(4, 0);
+    y.set(1, 45);
+    y.floor(0, 1, -9);
+    for (int lean = 45; lean < 90; lean += 3) {
+      x.set(1, lean);
+      y.set(1, lean);
+      for (int n = 1; n <= 5; n++) {
+        fraction(x, n, y.ways(n, 0), y.ways(n, 1));
+      }
+    }
   }
 
   private static void way() {
