@@ -619,6 +619,10 @@ public final class PromisesTest {
     due("slip, twice", x.then(3, 1), 82);
     x.floor(0, 0, 9);
     due("no catch below 0", x.then(3, 1), 86);
+    for (int lean = -1; lean <= 1; lean++) {
+      x.set(1, lean);
+      due("no catch at all", x.then(3, 1), lean);
+    }
     x.floor(0, 0, 0);
     x.set(1, 0);
     x.floor(0, 1, 5);
