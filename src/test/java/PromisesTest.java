@@ -1416,7 +1416,7 @@ public final class PromisesTest {
     x.tell(5);
     x.restore();
     x.seed(0);
-    due("waits as it did", waits(x), 77);
+    due("waits as it did", waits(x), 20);
   }
 
   /** The number of FALLS that waits, found by as many FALLS. */
@@ -1454,7 +1454,7 @@ public final class PromisesTest {
     x.put(0, 0, 1);
     x.voice(0, 1, 1);
     x.is(99);
-    x.tell(77);
+    x.tell(20);
   }
 
   private static void tell() {
