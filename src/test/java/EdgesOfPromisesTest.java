@@ -1175,8 +1175,8 @@ public final class EdgesOfPromisesTest {
     due("nor the trace", x.count(4), 1);
     due("nor what is told", x.told(1), told + 1);
     FirstSteps y = new FirstSteps();
-    for (int i = 1; i <= 100; i++) {
-      due("how often", y.image(), i);
+    for (int i = 1; i <= 512; i++) {
+      due("how often, up to the last call that is promised", y.image(), i);
     }
   }
 

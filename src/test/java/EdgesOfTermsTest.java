@@ -604,7 +604,7 @@ public final class EdgesOfTermsTest {
 
   private static void ints() {
     DOC.says("Ints that wrap; / cut, % the rest that it leaves, both by 0 are 0;");
-    // 8 to the 10th, twice, is the least int; 1024 * 2048 * 1024 too
+    // 2 to the 31st wraps to the least int
     String least = "1024*2048*1024";
     String[] texts = {least + "<0", least + "-1>0", least + "=0-" + least, least + "/(0-1)<0", least + "%(0-1)",
         "9999*9999*22<0", least + "+" + least, "7/0", "0/0", "7%0", "0%0", "7/0+3", "7%0+3", "(0-7)/0", "7%4", "(0-7)%4+9",
@@ -1313,7 +1313,7 @@ public final class EdgesOfTermsTest {
     FirstSteps x = still(1);
     x.set(2, 2);
     x.hold(99, 0);
-    // along it from 0: where it stands r is at hand within 2; it goes until 3 behind it
+    // by a REACH of 2 it goes along the HOLD, a CELL in four TENTHS, until it is 3 CELLS behind it
     due("n 0", x.stand(0, 0), 0);
     due("n 3", x.stand(0, 3), 0);
     due("n 4", x.stand(0, 4), 0);
