@@ -464,6 +464,13 @@ public final class EdgesOfPromisesTest {
     due("nor is that one", y.text(0), -10);
     due("'1' and 8 bits more", y.feed(0x131, 2), 2);
     due("is no digit behind", y.text(0), -11);
+    due("'1' with the eighth bit", y.feed('1' + 128, 1), 1);
+    due("is no digit", y.text(0), -10);
+    due("'f' with the eighth bit", y.feed('f' + 128, 1), 1);
+    due("is no name", y.text(0), -10);
+    due("'7' and '+' with the eighth bit", y.feed(128 + '+' << 8 | '7', 2), 2);
+    due("is no sign", y.text(0), -11);
+    due("the text of ahead stays", worth(y), 9);
     DOC.says(13, "BEYOND.");
     range("n", 1, 8, (x, v) -> x.feed(word, v));
     DOC.says(13, "FULL.");
@@ -1206,9 +1213,12 @@ public final class EdgesOfPromisesTest {
     x.set(1, 99);
     due("its text", x.then(1, 6) - x.is(6), 1 + 9);
     Made.feed(x, "*2");
-    due("its tape", x.text(0), 1);
+    due("its tape, 7+w and what is fed now", x.text(0), 1);
+    x.set(5, 40);
+    due("its worth", worth(x), 7 + 40 * 2);
     due("its holds", x.count(0), 4);
     due("its goings", x.count(1), 7);
+    restoreToNothing();
     DOC.says(35, "NONE: there is none.");
     Twins.refused("none", Made::withoutImage, FirstSteps::restore, NONE);
     FirstSteps y = new FirstSteps();
@@ -1217,6 +1227,45 @@ public final class EdgesOfPromisesTest {
     due("days", y.is(13), 2);
     y.image();
     due("one", y.restore(), 2);
+  }
+
+  /** The IMAGE has no HOLDS, GOINGS, TEXTS, bytes, numbers that wait; what comes behind it comes as at first. */
+  private static void restoreToNothing() {
+    FirstSteps x = new FirstSteps();
+    due("an image of nothing", x.image(), 1);
+    x.hold(3, 50);
+    x.setHold(0, 2, 1);
+    x.going(600, 2);
+    x.going(600, 5);
+    Made.text(x, 0, "70");
+    Made.text(x, 1, "1");
+    Made.feed(x, "1+");
+    x.tell(0);
+    x.days(5);
+    x.tenths(3);
+    due("now", x.is(11), 1);
+    due("left", x.is(12), 4);
+    due("days", x.restore(), 0);
+    int[] is = {0, 0, 8, 4, 10, 0, 0, 0, 0, 0, 0, 0, 0, 0};
+    for (int what = 0; what <= 13; what++) {
+      due("is " + what, x.is(what), is[what]);
+    }
+    int[] count = {0, 0, 0, 0, 0, 1};
+    for (int what = 0; what <= 5; what++) {
+      due("count " + what, x.count(what), count[what]);
+    }
+    due("no hold", x.holdIs(0, 2), BEYOND);
+    due("no going", x.goingIs(0, 0), BEYOND);
+    due("no tenths", x.tenths(1), STATE);
+    due("no texts", x.untell(0) + x.untell(1), 0);
+    due("a hold", x.hold(3, 50), 0);
+    due("not padded", x.holdIs(0, 2), 0);
+    due("a going", x.going(600, 7), 0);
+    due("now", x.is(11), 0);
+    due("left", x.is(12), 7);
+    due("days of a week", x.days(6), 0);
+    due("the seventh", x.days(1), 1);
+    due("worth", worth(x), 3);
   }
 
   private static FirstSteps pictured() {

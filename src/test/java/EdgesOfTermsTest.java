@@ -216,6 +216,13 @@ public final class EdgesOfTermsTest {
       y.set(6, l[0]);
       due("learned " + l[0] + " by 100", y.goingIs(1, 6), l[1]);
     }
+    y.set(5, 3);
+    y.set(6, 99);
+    due("weeks and learned, each cut", y.goingIs(1, 6), 10);
+    FirstSteps z = Made.withHolds(0, 9);
+    z.set(5, 1);
+    z.set(6, 99);
+    due("so to dare a gap", z.gaps(1), 0);
   }
 
   private static void quotientsOfTexts() {
@@ -926,7 +933,7 @@ public final class EdgesOfTermsTest {
     // a LEAN below 5 has no fifth, so it comes to the third TENTH as it is
     int[][] leans = {{4, 3, 1, 3}, {4, 4, 0, 0}, {4, 3, 0, 1}, {4, 5, 0, 0}, {-4, 3, 0, -1}, {-4, 4, 0, 0}, {-4, 50, 0, 0},
         {0, 50, 0, 0}, {4, 0, 0, 4}, {-4, 0, 0, -4}, {4, 18, 9, 4}, {4, 17, 9, 4}, {4, 19, 9, 3}, {-4, 17, 9, -4},
-        {-4, 19, 9, -3}, {4, 0, 9, 4}, {-4, 0, 9, -4}};
+        {-4, 19, 9, -3}, {4, 0, 9, 4}, {-4, 0, 9, -4}, {1, 0, 0, 1}, {1, 1, 0, 0}, {-1, 0, 0, -1}, {-1, 1, 0, 0}};
     for (int[] l : leans) {
       FirstSteps x = still(3);
       x.set(1, l[0]);
@@ -1195,6 +1202,39 @@ public final class EdgesOfTermsTest {
     Made.text(y, 0, "999");
     fraction(y, 6, above, below);
     waysByOtherSways();
+    waysBySteps();
+  }
+
+  /** Without SWAYS: the STEP of the third TENTH comes to FLOOR 1, which leans forward. */
+  private static void waysBySteps() {
+    FirstSteps x = still(3);
+    x.set(0, 8);
+    x.set(1, 45);
+    x.floor(0, 1, -9);
+    x.floor(1, 1, 9);
+    // strength and slip of both floors, then the TENTH in which it falls (9: in none of eight); 45 stays 45 on FLOOR 0
+    int[][] falls = {{0, 0, 6}, {4, 0, 6}, {10, 0, 7}, {18, 9, 6}, {19, 9, 6}, {50, 9, 9}};
+    for (int[] f : falls) {
+      x.set(4, f[0]);
+      x.floor(0, 0, f[1]);
+      x.floor(1, 0, f[1]);
+      for (int n = 1; n <= 8; n++) {
+        due("ahead by " + n, x.then(n, 7), n < f[2] ? 0 : 1);
+        fraction(x, n, n < f[2] ? 0 : 1, 1);
+      }
+    }
+    // the first STEP is caught by the slip of FLOOR 0, which it leaves, the second one by that of FLOOR 1
+    int[][] slips = {{0, 9, 7}, {9, 0, 6}};
+    x.set(4, 10);
+    for (int[] s : slips) {
+      x.floor(0, 0, s[0]);
+      x.floor(1, 0, s[1]);
+      fraction(x, s[2] - 1, 0, 1);
+      fraction(x, s[2], 1, 1);
+    }
+    x.set(0, 7);
+    x.set(4, 0);
+    fraction(x, 8, 0, 1);
   }
 
   /** Nine D in the first TENTH, fifteen in the second one, which CARRIES. */
@@ -1297,6 +1337,14 @@ public final class EdgesOfTermsTest {
     x.setHold(1, 2, 0);
     x.setHold(1, 1, 0);
     due("not hard", x.pad(1), 0);
+    x.setHold(2, 2, 1);
+    x.set(0, 0);
+    due("none makes less, the one that is padded neither", x.pad(1), 0);
+    x.setHold(0, 0, 0);
+    x.setHold(0, 2, 1);
+    due("the least, though it is the padded one that is struck", x.pad(1), 0);
+    x.setHold(0, 2, 0);
+    x.setHold(2, 2, 0);
     due("nothing is padded", x.holdIs(0, 2) + x.holdIs(1, 2) + x.holdIs(2, 2), 0);
     FirstSteps y = Made.withHolds(0, 0);
     due("without goings", y.pad(200), 0);
@@ -1374,6 +1422,18 @@ public final class EdgesOfTermsTest {
     due("free", x.go(21), 3);
     due("a fall", x.then(22, 7), 1);
     due("14 less 10 against 7", x.go(22), 2);
+    due("22 yards, and two falls", 100 * x.then(33, 10) + x.then(33, 7), 2202);
+    due("22 less 20 against 11", x.go(33), 2);
+    due("34 yards, and two falls still", 100 * x.then(51, 10) + x.then(51, 7), 3402);
+    due("34 less 20 against 16 less 30, and against 0", x.go(51), 3);
+    FirstSteps y = still(3);
+    y.set(4, 45);
+    y.floor(1, 0, 9);
+    y.floor(1, 1, 9);
+    due("22 yards free, and a fall", 100 * y.then(36, 10) + y.then(36, 7), 2201);
+    due("22 less 10 is not more than 12", y.go(36), 2);
+    due("24 yards free, and a fall", 100 * y.then(39, 10) + y.then(39, 7), 2401);
+    due("24 less 10 is more than 13", y.go(39), 3);
   }
 
   private static void films() {
@@ -1414,13 +1474,16 @@ public final class EdgesOfTermsTest {
     due("all alike", x.guess(0), 0);
     due("no numbers", x.guess(1), 0);
     x.set(5, 33);
-    due("whatever they are now", x.guess(0), 0);
+    due("all alike still", x.guess(0), 0);
     due("they stay", x.is(5), 33);
     // The LEAN of 57 is 68, 81, 97 less CATCH; with a CATCH of 28 it falls where it would step in the sixth.
     int[][] strengths = {{28, 0}, {27, 4}, {14, 56}, {13, 60}, {12, 0}, {50, 0}};
     for (int[] s : strengths) {
       FirstSteps y = leaning(s[0]);
       due("strength " + s[0], y.guess(0), s[1]);
+      y.set(5, 58);
+      due("whatever they are now", y.guess(0), s[1]);
+      due("and they stay so", y.is(5), 58);
       due("that is the least of the least", least(y), s[1]);
     }
   }
