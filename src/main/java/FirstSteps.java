@@ -924,8 +924,10 @@ public final class FirstSteps {
     }
 
     void add(int item) {
-      exchange(items, length, item);
-      length = Math.min(MOST_BYTES, length + 1);
+      if (length >= 0 && length < items.length) {
+        items[length] = item;
+        length++;
+      }
     }
 
     int worth(int[] named) {
